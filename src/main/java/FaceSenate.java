@@ -268,7 +268,7 @@ public final class FaceSenate {
     }
 
     public int news(int news) {
-        if (!isNews(news) || news == now.news) {
+        if (!isWithin(news, MOST_NEWS) || news == now.news) {
             return NONE;
         }
         acts.keep(now);
@@ -900,10 +900,6 @@ public final class FaceSenate {
         return isMember(member) && isMember(other) && member != other && (isSeated(member) || isSeated(other));
     }
 
-    private static boolean isNews(int news) {
-        return isWithin(news, MOST_NEWS);
-    }
-
     private static boolean isPart(int what) {
         return what == 0 || what == 1;
     }
@@ -956,7 +952,7 @@ public final class FaceSenate {
 
         void toNext() {
             start = after;
-            for (int i = start; isAt(i) && (bytes[i] == 32 || bytes[i] == 10); i++) {
+            for (int i = start; i < TAPE_BYTES && isAt(i) && (bytes[i] == 32 || bytes[i] == 10); i++) {
                 start = i + 1;
             }
             int c = isAt(start) ? bytes[start] & 255 : NONE;
@@ -974,7 +970,7 @@ public final class FaceSenate {
 
         private void readWord() {
             name = 0;
-            for (int i = start; isAt(i) && isLetter(bytes[i]); i++) {
+            for (int i = start; i < TAPE_BYTES && isAt(i) && isLetter(bytes[i]); i++) {
                 name = codeWith(name, bytes[i]);
                 after = i + 1;
             }
@@ -986,7 +982,7 @@ public final class FaceSenate {
 
         private void readNumber() {
             number = 0;
-            for (int i = start; isAt(i) && isDigit(bytes[i]); i++) {
+            for (int i = start; i < TAPE_BYTES && isAt(i) && isDigit(bytes[i]); i++) {
                 number = number * 10 + bytes[i] - '0';
                 after = i + 1;
             }
@@ -1026,20 +1022,22 @@ public final class FaceSenate {
             tape.toFirst();
             boolean sound = true;
             for (int lines = 0; lines < TAPE_BYTES && sound && tape.kind != END; lines++) {
-                sound = tape.kind == HALL ? lines == 0 ? hallLine() : refuse() : otherLine();
+                sound = line(lines == 0);
             }
         }
 
-        private boolean otherLine() {
+        private boolean line(boolean first) {
             switch (tape.kind) {
+                case HALL:
+                    return first ? hallLine() : refuse();
                 case DISTRICT:
                     return districtLine();
                 case MEMBER:
                     return memberLine();
                 case LOOK:
-                    return formulaLine(plan.look);
+                    return isUntold(plan.look) && level(plan.look, LEVEL_OR, 0) && skip(';');
                 case LIGHT:
-                    return formulaLine(plan.light);
+                    return isUntold(plan.light) && level(plan.light, LEVEL_OR, 0) && skip(';');
                 case TOOTH:
                     return toothLine();
                 case DRAW:
@@ -1190,14 +1188,14 @@ public final class FaceSenate {
             return skip(';');
         }
 
-        private boolean formulaLine(Formula formula) {
-            // A formula that is told has a unit at least.
+        /** Makes ready for a formula that was not told yet; one that was told has a unit at least. */
+        private boolean isUntold(Formula formula) {
             if (formula.units > 0) {
                 return refuse();
             }
             formula.clear();
             tape.toNext();
-            return level(formula, LEVEL_OR, 0) && skip(';');
+            return true;
         }
 
         /** Reads what is of this level, within so many units ( e ) and ones behind not. */
