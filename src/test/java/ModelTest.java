@@ -16,6 +16,25 @@ public final class ModelTest {
     private static final Map<String, Integer> WEIGHTS = Map.of("feed", 0, "end", 0, "senate", 0, "step", 4,
             "news", 3, "sit", 3, "change", 3, "undo", 3, "redo", 2, "looks", 3);
 
+    /** For each parameter: most arguments are below this, so that most calls are of things that can be. */
+    private static final Map<String, int[]> BELOW = Map.ofEntries(
+            Map.entry("fault", new int[] {2}), Map.entry("member", new int[] {7, 7}),
+            Map.entry("district", new int[] {4, 4}), Map.entry("seat", new int[] {16, 2}),
+            Map.entry("news", new int[] {10}), Map.entry("sit", new int[] {7, 16}),
+            Map.entry("change", new int[] {7, 7}), Map.entry("unseat", new int[] {7}),
+            Map.entry("stand", new int[] {7, 2}), Map.entry("sample", new int[] {8, 2}),
+            Map.entry("samples", new int[] {8}), Map.entry("chain", new int[] {7, 7}),
+            Map.entry("place", new int[] {7, 2}), Map.entry("move", new int[] {3}),
+            Map.entry("will", new int[] {7, 61}), Map.entry("ahead", new int[] {61}),
+            Map.entry("unrest", new int[] {61}), Map.entry("sways", new int[] {7, 10, 21}),
+            Map.entry("parties", new int[] {4, 2}), Map.entry("least", new int[] {64, 21}),
+            Map.entry("best", new int[] {21}), Map.entry("odds", new int[] {5, 2}),
+            Map.entry("moved", new int[] {3}), Map.entry("lies", new int[] {8}),
+            Map.entry("looks", new int[] {7, 7, 10}), Map.entry("untell", new int[] {30}),
+            Map.entry("later", new int[] {4}), Map.entry("fits", new int[] {5}),
+            Map.entry("ask", new int[] {7, 2, 5}), Map.entry("image", new int[] {3}),
+            Map.entry("back", new int[] {3}), Map.entry("about", new int[] {14}));
+
     private final Random random;
     private final List<Method> methods = new ArrayList<>();
     private final List<String> done = new ArrayList<>();
@@ -104,18 +123,14 @@ public final class ModelTest {
         for (int i = 0; i < args.length; i++) {
             if (m.getParameterTypes()[i] == boolean.class) {
                 args[i] = random.nextBoolean();
-            } else if (random.nextInt(12) == 0) {
+            } else if (random.nextInt(20) == 0) {
                 args[i] = EDGES[random.nextInt(EDGES.length)];
-            } else if (m.getName().equals("least") && i == 0) {
-                args[i] = random.nextInt(64);
-            } else if (m.getName().equals("about")) {
-                args[i] = random.nextInt(14);
-            } else if (m.getName().equals("later")) {
-                args[i] = random.nextInt(random.nextBoolean() ? 4 : 1001);
             } else if (m.getName().equals("fits") || m.getName().equals("ask") && i == 2) {
                 args[i] = model.about(10) - random.nextInt(random.nextBoolean() ? 5 : 2000);
+            } else if (m.getName().equals("later") && random.nextInt(4) == 0) {
+                args[i] = random.nextInt(1001);
             } else {
-                args[i] = random.nextInt(i == m.getParameterCount() - 1 ? 12 : 7);
+                args[i] = random.nextInt(BELOW.get(m.getName())[i]);
             }
         }
         return args;

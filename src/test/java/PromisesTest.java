@@ -158,6 +158,12 @@ public final class PromisesTest {
         x.step();
         due("by the step", 6, x.member(0, 0));
         due("by the step", 1, x.member(1, 0));
+        x = CHECK.senate("district a mood 1;member a for a face 1;");
+        for (int i = 1; i <= 999; i++) {
+            due("step() " + i, 0, x.step());
+        }
+        due("step() 1000", NONE, x.step());
+        due("step", 999, x.about(5));
         x = CHECK.senate("district a mood 1;member a for a face 1;look face - 5;");
         x.step();
         due("0 at least", 0, x.member(0, 0));
@@ -587,6 +593,12 @@ public final class PromisesTest {
         due("of like ones the least", 0, x.parties(3, 1));
         due("only the last NEWS counts", 0, x.parties(2, 0));
         due("alone", 3, x.parties(1, 1));
+        // What NEWS do hangs on the step: they are heard in the first and the third one only.
+        x = CHECK.senate("district a mood 1;member a for a face 1;look face + news % 5 * (step % 2 = 0) - (step = 1) * 3;");
+        due("by the step", 2, x.parties(2, 0));
+        due("by the step", 4, x.parties(2, 1));
+        due("by the step", 6, x.parties(3, 0));
+        due("by the step", 4, x.parties(3, 1));
     }
 
     private static void least() {

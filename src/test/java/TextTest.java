@@ -199,6 +199,7 @@ public final class TextTest {
         String district = "district a mood 9;";
         fault(district + "member b for a face 10;", 4, 38);
         fault(district + "member b for a face 9 stoic 10;", 4, 46);
+        CHECK.senate("hall 1 by 1;district a mood 0;member b for a face 0 stoic 0 at 0 0;tooth 0 of 1;draw 0;");
         FaceSenate x = CHECK.senate("hall 1 by 4;district a mood 9;member b for a face 9 stoic 9;tooth 100 of 9;draw 999;");
         CHECK.due("columns", 1, x.about(2));
         CHECK.due("rows", 4, x.about(3));
@@ -250,6 +251,10 @@ public final class TextTest {
         fault("look 1 + not 1;", 2, 9);
         fault("look 1 + ;", 2, 9);
         fault("look not ;", 2, 9);
+        fault("look not ; x", 2, 9);
+        fault("look (1 + ;) x", 2, 10);
+        fault("look 1 + ; x", 2, 9);
+        fault("look ; x", 2, 5);
         fault("look mood;", 2, 5);
         fault("look a;", 2, 5);
         fault("look 1 and or 1;", 2, 11);
