@@ -3,15 +3,8 @@ public final class PromisesTest {
     private static final Check CHECK = new Check();
     private static final int NONE = FaceSenate.NONE;
 
-    /** FACES 3, 6, 9; behind a STEP each is FACE + NEWS - stoic. SEATS 0, 1, none. */
-    private static final String TRIO = "hall 3 by 1;district a mood 5;district b mood 2;member x for a face 3 at 0 0;"
-            + "member y for a face 6 stoic 4 at 1 0;member z for b face 9 stoic 2;"
-            + "look face + news - stoic;light column * 3 + step;";
-
-    /** Seven in four rows and columns, as a drawing: 0 1 2 / 3 . 4 / 5 6, two ways from 0 to 6. */
-    private static final String SEVEN = "hall 4 by 4;district a mood 5;member a for a face 1 at 0 0;"
-            + "member b for a face 2 at 1 0;member c for a face 3 at 2 0;member d for a face 4 at 0 1;"
-            + "member e for a face 5 at 2 1;member f for a face 6 at 0 2;member g for a face 7 at 1 2;";
+    private static final String TRIO = Halls.TRIO;
+    private static final String SEVEN = Halls.SEVEN;
 
     public static void main(String[] args) {
         member();
