@@ -219,9 +219,20 @@ final class LookBoundaries {
         x.looks(1, 1, 1, true);
         book.due("of the five that are left", 0, x.ask(1, 0, 0));
         book.due("two at the most", 2, x.ask(1, 1, 0));
+        // Of all seven the last one tells most: he alone hears the NEWS.
+        x = book.senate(Halls.SEVEN.replace("face 7", "face 7 stoic 1") + "look face * (stoic = 0) + stoic * news;");
+        book.due("the seventh", 6, x.ask(1, 0, 0));
+        book.due("one at the most", 1, x.ask(1, 1, 0));
+        book.due("the seventh, behind six", 6, x.ask(6, 0, 0));
+        book.due("now they are like", 0, x.ask(0, 0, 0));
+        x.looks(1, 6, 8, true);
+        book.due("8 and 9", 0x300, x.fits(0));
         book.promise(43);
         book.says("ASK (STEPS 0 .. 6) what 0: the MEMBER, 1: how many are left at the most; NONE if none FITS, there are no "
                 + "MEMBERS, or one can't be.");
+        x = book.senate("district a mood 1;member a for a face 5;member b for a face 5 stoic 1;"
+                + "look (stoic = 0) * (news > 6) * (news - 6) + (stoic = 1) * (news > 4);");
+        x.looks(1, 1, 1, true);
         book.due("ask(6, 0, 0)", 0, x.ask(6, 0, 0));
         for (int steps : Book.outside(0, 6)) {
             book.due("ask(" + steps + ", 0, 0)", NONE, x.ask(steps, 0, 0));

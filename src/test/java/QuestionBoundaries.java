@@ -483,6 +483,7 @@ final class QuestionBoundaries {
         book.due("the other one", 3, x.brightest());
         book.due("all alike", 0, new FaceSenate().brightest());
         book.due("all dark", 0, book.senate("light 0;").brightest());
+        book.due("all dark, seven are seated", 3, book.senate(Halls.SEVEN + "light 0;").brightest());
         book.due("all as BRIGHT as can be, 9 at most", 0, book.senate("light 9 + column;").brightest());
         x = book.senate("hall 1 by 1;district a mood 1;member a for a face 1 at 0 0;");
         book.due("none is empty", NONE, x.brightest());

@@ -10,7 +10,7 @@ final class TextBoundaries {
     private static final String THIRTY = "1+".repeat(29) + "1";
 
     private static final String FULL = "hall 2 by 3;district p mood 9;district q mood 8;member m for p face 1 stoic 2 at 1 2;"
-            + "member n for q face 5 stoic 4 at 0 0;look face - 1;light 8;tooth 100 of 3;draw 9;";
+            + "member n for q face 5 stoic 4 at 0 0;look not face;light not 0;tooth 100 of 3;draw 9;";
     private static final String PLAIN = "district n mood 3;member p for n face 1;member m for n face 5;member n for n face 3;";
 
     private final Book book;
@@ -522,7 +522,7 @@ final class TextBoundaries {
         FaceSenate x = new FaceSenate();
         for (char sort : "efppfffpep#p#f#eefpf".toCharArray()) {
             if (sort == 'f') {
-                tellAnother(x, FULL, "2 by 3; 9 8; 1/5/0/2 5/0/1/4; 8 9 3; a STEP: 3 1 719");
+                tellAnother(x, FULL, "2 by 3; 9 8; 1/5/0/2 5/0/1/4; 1 9 2; a STEP: 3 0 719");
             } else if (sort == 'p') {
                 tellAnother(x, PLAIN, "4 by 4; 3; 1/-1/0/0 5/-1/0/0 3/-1/0/0; 5 0 0; a STEP: 0 9 397");
             } else if (sort == 'e') {
