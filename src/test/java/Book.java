@@ -9,19 +9,19 @@ import java.util.regex.Matcher;
 import java.util.regex.Pattern;
 
 /**
- * The document as the boundary tests go through it: each sentence that they hold is quoted from it, has an
- * answer at least that is looked at, and no sentence that names a boundary stays without a test.
+ * The document as the tests go through it: each sentence that they hold is quoted from it, has an answer at
+ * least that is looked at, and no sentence of the Terms and the promises stays without a test.
  */
 final class Book {
     static final int NONE = FaceSenate.NONE;
 
     private static final Path DOCUMENT = Path.of("../shared/DOC.md");
 
-    /** Words by which a sentence names a boundary. */
-    private static final Pattern EDGE = Pattern.compile(
-            "NONE|-2|\\bfalse\\b|\\.\\.|\\bat most\\b|\\bat least\\b|\\babove\\b|\\bbelow\\b|\\bempty\\b|\\bwrap|\\b30\\b|"
-            + "\\b60\\b|\\b40\\b|\\b1,600\\b|\\bof like ones\\b|\\bnothing\\b|\\bnobody\\b|\\bnowhere\\b|\\bwithout\\b|"
-            + "\\bif not told\\b|\\bif it is not told\\b|\\bat first\\b|\\balready\\b|\\bfewer\\b|\\bnot seated\\b");
+    /** What is no sentence: the fences, and the numbers of the parts. */
+    private static final Pattern MARKS = Pattern.compile("```(text)?|==== \\d\\.");
+
+    /** What is left between quotes, if it says something. */
+    private static final Pattern WORDS = Pattern.compile("[^\\x00]*[A-Za-z0-9][^\\x00]*");
 
     private final Check check = new Check();
     private final Map<String, String> parts = new LinkedHashMap<>();
@@ -38,7 +38,7 @@ final class Book {
         String[] cut = Files.readString(DOCUMENT).split("(?m)^## ");
         for (String part : cut) {
             String name = part.lines().findFirst().orElse("").replaceAll(":.*", "");
-            String body = part.substring(part.indexOf('\n') + 1).replaceAll("\\s+", " ");
+            String body = MARKS.matcher(part.substring(part.indexOf('\n') + 1)).replaceAll(" ").replaceAll("\\s+", " ");
             // A promise's line begins with its method's head, which no sentence is.
             body = name.startsWith("Promise") ? body.replaceFirst("^ ?`[^`]*`: ", "") : body;
             if (name.equals("Terms") || name.startsWith("Promise")) {
@@ -133,12 +133,14 @@ final class Book {
     }
 
     private static List<String> unheld(String body, boolean[] marks) {
+        StringBuilder rest = new StringBuilder();
+        for (int i = 0; i < body.length(); i++) {
+            rest.append(marks[i] ? '\0' : body.charAt(i));
+        }
         List<String> left = new ArrayList<>();
-        Matcher edge = EDGE.matcher(body);
-        while (edge.find()) {
-            if (!marks[edge.start()]) {
-                left.add(body.substring(Math.max(0, edge.start() - 40), Math.min(body.length(), edge.end() + 40)));
-            }
+        Matcher words = WORDS.matcher(rest);
+        while (words.find()) {
+            left.add(words.group().trim());
         }
         return left;
     }

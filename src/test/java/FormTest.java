@@ -16,15 +16,18 @@ import java.util.regex.Pattern;
 /** The form of the program, by shared/LANGUAGE.md, as far as it can be seen from outside. */
 public final class FormTest {
     private static final Path SOURCE = Path.of("src/main/java/FaceSenate.java");
+    private static final Path DOCUMENT = Path.of("../shared/DOC.md");
     private static final Check CHECK = new Check();
-    private static final String FACE = "feed:5 end:1 senate:0 fault:1 member:2 district:2 seat:2 report:0 off:0 step:0 "
-            + "news:1 sit:2 change:2 unseat:1 undo:0 redo:0 stand:2 sample:2 samples:1 chain:2 groups:0 place:2 move:1 "
-            + "settled:0 will:2 ahead:1 alike:0 unrest:1 sways:3 brightest:0 parties:2 least:2 best:1 odds:2 moved:1 "
-            + "key:0 lies:1 looks:4 untell:1 later:1 fits:1 ask:3 image:1 back:1 about:1";
 
     public static void main(String[] args) throws Exception {
-        face();
-        classes();
+        Set<String> due = faceOfTheDocument();
+        CHECK.due("methods in the document's face", 45, due.size());
+        face(due);
+        Set<String> taken = new HashSet<>();
+        for (String method : due) {
+            taken.add(method.replaceAll("^\\w+ |\\(.*", ""));
+        }
+        classes(taken);
         source();
         methodLengths();
         room();
@@ -35,31 +38,50 @@ public final class FormTest {
         CHECK.due(what, false, is);
     }
 
-    private static void face() {
-        Set<String> want = new TreeSet<>(List.of(FACE.split(" ")));
+    /** The methods that the document's public face shows, as "int feed(int,int,int,int,int)". */
+    private static Set<String> faceOfTheDocument() throws Exception {
+        String text = Files.readString(DOCUMENT);
+        String block = text.substring(text.indexOf("public final class FaceSenate {"));
+        block = block.substring(0, block.indexOf("```"));
+        Set<String> face = new TreeSet<>();
+        Matcher method = Pattern.compile("public (\\w+ \\w+)\\(([^)]*)\\);").matcher(block);
+        while (method.find()) {
+            face.add(method.group(1) + "(" + method.group(2).replaceAll(" \\w+(, )?", ",").replaceAll(",$", "") + ")");
+        }
+        return face;
+    }
+
+    private static String head(Method m) {
+        StringBuilder s = new StringBuilder(m.getReturnType().getName()).append(' ').append(m.getName()).append('(');
+        for (Class<?> type : m.getParameterTypes()) {
+            s.append(s.charAt(s.length() - 1) == '(' ? "" : ",").append(type.getName());
+        }
+        return s.append(')').toString();
+    }
+
+    private static void face(Set<String> want) {
         Set<String> got = new TreeSet<>();
         for (Method m : FaceSenate.class.getDeclaredMethods()) {
             if (Modifier.isPublic(m.getModifiers())) {
-                got.add(m.getName() + ":" + m.getParameterCount());
+                refuse(m + " is static or throws", Modifier.isStatic(m.getModifiers()) || m.getExceptionTypes().length > 0);
+                got.add(head(m));
             } else {
                 refuse(m + " is not private", !Modifier.isPrivate(m.getModifiers()));
             }
         }
         refuse("face " + got + " is not " + want, !want.equals(got));
         refuse("not public and final", FaceSenate.class.getModifiers() != (Modifier.PUBLIC | Modifier.FINAL));
-        refuse("constructors", FaceSenate.class.getConstructors().length != 1
-                || FaceSenate.class.getDeclaredConstructors().length != 1);
+        Constructor<?>[] made = FaceSenate.class.getDeclaredConstructors();
+        refuse("constructors", made.length != 1 || made[0].getParameterCount() != 0
+                || !Modifier.isPublic(made[0].getModifiers()));
         CHECK.due("NONE", -1, FaceSenate.NONE);
         for (Field f : FaceSenate.class.getDeclaredFields()) {
-            refuse(f + " is seen from outside", !Modifier.isPrivate(f.getModifiers()) && !f.getName().equals("NONE"));
+            int seen = f.getName().equals("NONE") ? Modifier.PUBLIC : Modifier.PRIVATE;
+            refuse(f + " is seen from outside, or is not", (f.getModifiers() & seen) == 0);
         }
     }
 
-    private static void classes() {
-        Set<String> taken = new HashSet<>();
-        for (String method : FACE.split(" ")) {
-            taken.add(method.substring(0, method.indexOf(':')));
-        }
+    private static void classes(Set<String> taken) {
         Class<?>[] inside = FaceSenate.class.getDeclaredClasses();
         refuse("too many classes", inside.length + 1 > 12);
         for (Class<?> c : inside) {
